@@ -76,9 +76,6 @@ public final class HillsLieDown {
     // ---- the country as told
 
     public int country(int d) {
-        if (!isShelf(d)) {
-            return NO_SUCH;
-        }
         int refusal = rowRefusal(d);
         if (refusal < 0) {
             return refusal;
@@ -139,10 +136,8 @@ public final class HillsLieDown {
     }
 
     public int comes(int d, int age, int cell) {
-        if (!isShelf(d) || !isWithin(age, 0, OLDEST) || !isCell(cell)) {
-            return NO_SUCH;
-        }
-        int refusal = kindRefusal(d);
+        boolean isInRange = isWithin(age, 0, OLDEST) && isCell(cell);
+        int refusal = isInRange ? kindRefusal(d) : NO_SUCH;
         if (refusal < 0) {
             return refusal;
         }
@@ -400,10 +395,8 @@ public final class HillsLieDown {
     // ---- ages, what he is
 
     public int ages(int d, int w, int what) {
-        if (!isShelf(d) || !now.has(w) || !isWithin(what, 0, 2)) {
-            return NO_SUCH;
-        }
-        int refusal = rowRefusal(d);
+        boolean isInRange = now.has(w) && isWithin(what, 0, 2);
+        int refusal = isInRange ? rowRefusal(d) : NO_SUCH;
         if (refusal < 0) {
             return refusal;
         }
@@ -424,10 +417,8 @@ public final class HillsLieDown {
     }
 
     public int whatIs(int d, int w, int what) {
-        if (!isShelf(d) || !now.has(w) || !isWithin(what, 0, 1)) {
-            return NO_SUCH;
-        }
-        int refusal = rowRefusal(d);
+        boolean isInRange = now.has(w) && isWithin(what, 0, 1);
+        int refusal = isInRange ? rowRefusal(d) : NO_SUCH;
         if (refusal < 0) {
             return refusal;
         }
@@ -499,9 +490,6 @@ public final class HillsLieDown {
     // ---- told profiles, countries by seeds
 
     public int forged(int d) {
-        if (!isShelf(d)) {
-            return NO_SUCH;
-        }
         int refusal = rowRefusal(d);
         if (refusal < 0) {
             return refusal;
@@ -516,9 +504,6 @@ public final class HillsLieDown {
     }
 
     public int judge(int d) {
-        if (!isShelf(d)) {
-            return NO_SUCH;
-        }
         int refusal = rowRefusal(d);
         if (refusal < 0) {
             return refusal;
@@ -612,9 +597,6 @@ public final class HillsLieDown {
     }
 
     public int put(int d, int i, int v) {
-        if (!isShelf(d)) {
-            return NO_SUCH;
-        }
         int refusal = rowRefusal(d);
         if (refusal < 0) {
             return refusal;
@@ -659,9 +641,6 @@ public final class HillsLieDown {
     }
 
     public int cost(int d) {
-        if (!isShelf(d)) {
-            return NO_SUCH;
-        }
         int refusal = kindRefusal(d);
         if (refusal < 0) {
             return refusal;
@@ -670,9 +649,6 @@ public final class HillsLieDown {
     }
 
     public int toss(int d) {
-        if (!isShelf(d)) {
-            return NO_SUCH;
-        }
         int refusal = kindRefusal(d);
         if (refusal < 0) {
             return refusal;
@@ -715,16 +691,22 @@ public final class HillsLieDown {
         return way < 0 ? 1 : 2;
     }
 
-    /** 0 if there is a ROW on that SHELF. */
+    /** 0 if there is such a SHELF and a ROW on it. */
     private int rowRefusal(int d) {
+        if (!isShelf(d)) {
+            return NO_SUCH;
+        }
         if (shelves[d].holds == Shelf.NOTHING) {
             return NOTHING_HELD;
         }
         return shelves[d].holds == Shelf.ROW ? 0 : ANOTHER_KIND;
     }
 
-    /** 0 if there is a KIND on that SHELF. */
+    /** 0 if there is such a SHELF and a KIND on it. */
     private int kindRefusal(int d) {
+        if (!isShelf(d)) {
+            return NO_SUCH;
+        }
         if (shelves[d].holds == Shelf.NOTHING) {
             return NOTHING_HELD;
         }

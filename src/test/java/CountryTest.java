@@ -51,6 +51,11 @@ public final class CountryTest {
         Check.due("height", x.height(7), 20);
         Check.due("the row stays", Check.elementOrThrown(x, 6, 0), 'w');
         Check.due("country again", x.country(6), 3);
+        Check.due("country", Check.tell(x, "m112;m213;y11;y22;"), 4);
+        Check.due("at", x.walker(1, 3), 12);
+        Check.due("at", x.walker(2, 3), 13);
+        Check.due("way", x.walker(1, 4), 1);
+        Check.due("way", x.walker(2, 4), 2);
         Check.due("walkers", x.count(0), 3);
     }
 

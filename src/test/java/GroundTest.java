@@ -111,6 +111,15 @@ public final class GroundTest {
         Check.due("that", x.steepest(1), 4);
         Check.due("the first of three", x.steepest(2), 4);
         Check.due("that", x.steepest(3), 2);
+        x.raises(0, 3);
+        Check.due("the first CELL is flattest", x.steepest(2), 0);
+        x.raises(0, 1);
+        x.raises(14, 10);
+        Check.due("the last CELL is flattest", x.steepest(2), 13);
+        Check.due("that", x.steepest(3), 1);
+        x.raises(2, 4);
+        Check.due("the second", x.steepest(2), 1);
+        x.raises(2, 8);
         x.raises(14, 1);
         Check.due("down counts too", x.steepest(0), 13);
         Check.due("that, not below 0", x.steepest(1), 10);

@@ -95,6 +95,13 @@ public final class ToldTest {
             Check.due("as it was", y.walker(0, 3) + 100 * y.walker(1, 4), 203);
             Check.due("as it was", y.count(1), 0);
         }
+        // One of 80 climbs 2 out of his hole; WATER stands over him but on the edge.
+        HillsLieDown y = new HillsLieDown();
+        Check.bring(y, Check.WALKER, 0, 80, 3);
+        for (int z = 0; z < 9; z++) {
+            Check.due("one", y.countries(1, z, 0) / 2 + y.countries(1, z, 1), 1);
+            Check.due("twenty", y.countries(20, z, 0) / 2 + y.countries(20, z, 1), 20);
+        }
         Check.dueAll("countries", -1, x.countries(0, 1, 0), x.countries(21, 1, 0), x.countries(-1, 1, 0),
             x.countries(1, 1, -1), x.countries(1, 1, 2));
     }

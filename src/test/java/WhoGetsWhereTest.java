@@ -36,6 +36,12 @@ public final class WhoGetsWhereTest {
         // Others stay, and the ground lies down under them: an AUNT at 3 takes 1 from 2 .. 4.
         Check.bring(y, Check.AUNT, 6, 80, 3);
         Check.due("where another one is it is lower", y.goes(0, 3), 1);
+        // The others stay where they are: 0 makes no hill lower for 1.
+        HillsLieDown z = new HillsLieDown();
+        z.raises(6, 9);
+        Check.bring(z, Check.AUNT, 9, 120, 0);
+        Check.bring(z, Check.WALKER, 0, 60, 5);
+        Check.due("alone he does not get there", z.goes(1, 6), 0);
     }
 
     private static void far() {
@@ -45,7 +51,9 @@ public final class WhoGetsWhereTest {
         Check.bring(x, Check.TWIN, 0, 0, 5);
         // A TWIN of 0 PRESSES 1, so 3 up is 4 up for him.
         Check.due("greatest", x.far(0, 0), 12);
+        Check.due("he stays where he is", x.walker(0, 3), 5);
         Check.due("least", x.far(0, 1), 2);
+        Check.due("he stays where he is", x.walker(0, 3), 5);
         x.raises(13, 7);
         x.raises(1, 7);
         Check.due("greatest", x.far(0, 0), 14);
@@ -86,6 +94,16 @@ public final class WhoGetsWhereTest {
         Check.due("two, the least bits of several", y.company(0, 6), 6);
         Check.dueAll("company", -1, y.company(-1, 0), y.company(5, 0), y.company(0, -1), y.company(0, 15));
         Check.due("as it was", y.walker(1, 3), 14);
+        // All five others: each takes 2 from beside it, the ground is 0 about: 12 less 10.
+        HillsLieDown z = new HillsLieDown();
+        z.raises(6, 12);
+        for (int w = 0; w < 5; w++) {
+            Check.bring(z, Check.AUNT, 9, 0, w);
+        }
+        Check.bring(z, Check.WALKER, 0, 60, 5);
+        Check.due("all the others", z.company(5, 6), 31);
+        z.raises(6, 13);
+        Check.due("not even all the others", z.company(5, 6), -4);
     }
 
     private static void hire() {
@@ -112,6 +130,22 @@ public final class WhoGetsWhereTest {
         x.raises(6, 8);
         Check.due("three of four, the least bits", x.hire(0, 6, 0), 4 + 8 + 16);
         Check.due("PAY", x.hire(0, 6, 1), 3);
+        // 0 goes along with 1, and is paid: a HIDER shows less than his AGE.
+        HillsLieDown y = new HillsLieDown();
+        y.raises(6, 8);
+        Check.bring(y, Check.AUNT, 9, 119, 0);
+        Check.bring(y, Check.WALKER, 0, 60, 5);
+        Check.due("bits", y.hire(1, 6, 0), 1);
+        Check.due("PAY", y.hire(1, 6, 1), 12);
+        HillsLieDown z = new HillsLieDown();
+        z.raises(6, 8);
+        Check.bring(z, Check.HIDER, 0, 90, 0);
+        Check.bring(z, Check.WALKER, 0, 60, 5);
+        // A HIDER of 90 PRESSES 3 in his CELL alone: that makes it worse.
+        Check.due("none", z.hire(1, 6, 1), -4);
+        z.raises(5, 1);
+        z.raises(6, 3);
+        Check.due("alone", z.hire(1, 6, 1), 0);
         Check.dueAll("hire", -1, x.hire(-1, 0, 0), x.hire(6, 0, 0), x.hire(0, -1, 0), x.hire(0, 15, 0),
             x.hire(0, 0, -1), x.hire(0, 0, 2));
     }
@@ -148,7 +182,7 @@ public final class WhoGetsWhereTest {
         Check.due("twos", x.apart(0), 2);
         Check.due("the first", x.apart(1), 2);
         Check.dueAll("apart", -1, x.apart(-1), x.apart(2));
-        Check.due("all as it was", x.walker(2, 3), 14);
+        Check.due("all as it was", x.walker(0, 3) + 100 * x.walker(1, 3) + 10000 * x.walker(2, 3), 140503);
     }
 
     private static void keeps() {
@@ -198,6 +232,15 @@ public final class WhoGetsWhereTest {
         // Now 7 over 3 at the right: 4. 2 upon the hill too makes 5; away (at 0) 2.
         Check.due("both on the hill", x.even(), 206);
         Check.due("all as it was", x.walker(2, 3), 7);
+        HillsLieDown y = new HillsLieDown();
+        y.raises(0, 9);
+        Check.bring(y, Check.WALKER, 0, 80, 0);
+        Check.due("he is there", y.even(), -4);
+        y.moves(0, 7);
+        Check.due("the first of all", y.even(), 0);
+        y.raises(0, 5);
+        y.raises(14, 9);
+        Check.due("the last CELL", y.even(), 14);
     }
 
     private static void order() {
