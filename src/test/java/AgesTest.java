@@ -219,16 +219,17 @@ public final class AgesTest {
     }
 
     private static void shares() {
-        HillsLieDown x = new HillsLieDown();
         for (int n = 1; n <= 9; n++) {
             int[] has = new int[n];
             for (int days = 0; days <= 99; days++) {
+                HillsLieDown x = new HillsLieDown();
                 for (int i = 0; i < n; i++) {
                     Check.due("shares(" + n + ", " + days + ", " + i + ")", x.shares(n, days, i), has[i]);
                 }
                 has[days % n]++;
             }
         }
+        HillsLieDown x = new HillsLieDown();
         Check.dueAll("shares", -1, x.shares(0, 1, 0), x.shares(10, 1, 0), x.shares(-1, 1, 0), x.shares(3, -1, 0),
             x.shares(3, 100, 0), x.shares(3, 1, -1), x.shares(3, 1, 3), x.shares(0, 1, -1));
     }

@@ -2,8 +2,11 @@ import java.util.Random;
 
 /** Long random runs: each call answers as the Model does. Seeds are fixed, so each run is the same. */
 public final class ModelTest {
-    private static final int RUNS = 300;
-    private static final int CALLS = 512;
+    private static final int RUNS = 2000;
+    /** What an object answers behind these is free. */
+    private static final int MOST_CALLS = 512;
+    /** No round makes more than these: a ROW of 100 elements, and what is asked of it. */
+    private static final int CALLS_OF_A_ROUND = 110;
 
     private final HillsLieDown x = new HillsLieDown();
     private final Model model = new Model();
@@ -11,6 +14,7 @@ public final class ModelTest {
     private final int run;
     /** The higher, the more often an argument is out of its range. */
     private final int carelessness;
+    private int made = 0;
 
     private ModelTest(int run) {
         this.run = run;
@@ -24,9 +28,10 @@ public final class ModelTest {
             if (run % 5 != 4) {
                 test.settle();
             }
-            for (int call = 0; call < CALLS - 40; call++) {
+            while (test.made <= MOST_CALLS - CALLS_OF_A_ROUND) {
                 test.call();
             }
+            Check.due("no more than 512 calls", test.made <= MOST_CALLS ? 1 : 0, 1);
         }
         Check.end("ModelTest");
     }
@@ -52,6 +57,7 @@ public final class ModelTest {
     }
 
     private void due(String call, long got, long want) {
+        made++;
         Check.due("run " + run + ": " + call, got, want);
     }
 
@@ -254,7 +260,7 @@ public final class ModelTest {
     private void oddsAndShares() {
         int w = one();
         int b = one();
-        int cell = random.nextBoolean() ? cell() : x.behind(w, random.nextInt(7));
+        int cell = random.nextBoolean() ? cell() : model.behind(w, random.nextInt(7));
         int n = number(0, 7);
         int t = number(2, 20);
         int part = number(0, 1);

@@ -46,15 +46,16 @@ public final class ShelvesTest {
         Check.due("-1 ahead of -14", x.row(0, 3, -1), -1);
         Check.due("nothing changed", x.put(0, 0, 0), -11);
         for (int sort = 0; sort < 3; sort++) {
-            Check.due("row", x.row(0, sort, 100), 0);
+            HillsLieDown y = new HillsLieDown();
+            Check.due("row", y.row(0, sort, 100), 0);
             for (int i = 0; i < 100; i++) {
-                Check.due("0 at first", Check.elementOrThrown(x, 0, i), 0);
-                x.put(0, i, 7);
+                Check.due("0 at first", Check.elementOrThrown(y, 0, i), 0);
+                y.put(0, i, 7);
             }
-            Check.due("no more than 100", x.put(0, 100, 0), -13);
+            Check.due("no more than 100", y.put(0, 100, 0), -13);
+            Check.due("refused", y.row(0, 0, -1), -14);
+            Check.due("nothing changed", Check.elementOrThrown(y, 0, 99), 7);
         }
-        Check.due("refused", x.row(0, 0, -1), -14);
-        Check.due("nothing changed", Check.elementOrThrown(x, 0, 99), 7);
         Check.due("a row of none", x.row(0, 0, 0), 0);
         Check.due("no place", x.put(0, 0, 0), -13);
         x.keep(1, 1, Check.WALKER, 1);
